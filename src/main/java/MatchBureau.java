@@ -612,20 +612,22 @@ public final class MatchBureau {
             for (int column = 0; column <= other.wordCount; column++) {
                 row[column] = column;
             }
-            for (int line = 0; line < one.wordCount; line++) {
-                nextRow(one.words[line], line + 1, other);
+            for (int line = 1; line <= one.wordCount; line++) {
+                int corner = row[0];
+                row[0] = line;
+                for (int column = 1; column <= other.wordCount; column++) {
+                    int least = corner;
+                    corner = row[column];
+                    if (one.words[line - 1] != other.words[column - 1]) {
+                        // No Math.min: LANGUAGE.md lets calls go eight deep, and price() comes far.
+                        least = least < corner ? least : corner;
+                        least = least < row[column - 1] ? least : row[column - 1];
+                        least++;
+                    }
+                    row[column] = least;
+                }
             }
             return row[other.wordCount];
-        }
-
-        private void nextRow(long word, int wordsSoFar, Segment other) {
-            int corner = row[0];
-            row[0] = wordsSoFar;
-            for (int column = 1; column <= other.wordCount; column++) {
-                int replaced = corner + (other.words[column - 1] == word ? 0 : 1);
-                corner = row[column];
-                row[column] = Math.min(replaced, Math.min(row[column], row[column - 1]) + 1);
-            }
         }
 
         int match(Segment one, Segment other) {
@@ -989,22 +991,22 @@ public final class MatchBureau {
             return measure.between(segment, entries[entry].segment);
         }
 
-        int bestEntry(Segment segment) {
-            int best = NONE;
+        int bestMatch(Segment segment) {
             int greatest = 0;
             for (int i = 0; i < entryCount; i++) {
-                int match = measure.match(segment, entries[i].segment);
-                if (match > greatest) {
-                    greatest = match;
-                    best = i;
-                }
+                greatest = Math.max(greatest, measure.match(segment, entries[i].segment));
             }
-            return best;
+            return greatest;
         }
 
-        int bestMatch(Segment segment) {
-            int best = bestEntry(segment);
-            return hasEntry(best) ? measure.match(segment, entries[best].segment) : 0;
+        int bestEntry(Segment segment) {
+            int greatest = bestMatch(segment);
+            for (int i = 0; greatest > 0 && i < entryCount; i++) {
+                if (measure.match(segment, entries[i].segment) == greatest) {
+                    return i;
+                }
+            }
+            return NONE;
         }
 
         void fillFromEntries(WorkFile work) {

@@ -17,6 +17,8 @@ public final class ToldTest {
         promise31Dispute();
         promise32FileAt();
         promise33Count();
+        promise33CountOfEightFiles();
+        promise33CountLeavesOutWhatIsUndone();
         tellingChangesNothing();
         Check.finish("ToldTest");
     }
@@ -485,6 +487,66 @@ public final class ToldTest {
         for (int what = 0; what < want.length; what++) {
             Check.due("count(" + what + ")", x.count(what), want[what]);
         }
+    }
+
+    /** Eight alike files, four of which are delivered then, and one is withdrawn. */
+    private static void promise33CountOfEightFiles() {
+        MatchBureau x = withPersons();
+        x.addPerson(40);
+        x.addPerson(50);
+        x.addPerson(50);
+        Check.entryWith(x, "a b", 9);
+        for (int i = 0; i < 8; i++) {
+            Check.fileWith(x, "a b.c");
+        }
+        Check.due("words in hand", x.count(6), 24);
+        Check.due("without a target", x.count(9), 16);
+        Check.due("alike in hand", x.entry(0, 4), 8);
+        Check.due("words of the band 0", x.allWords(0), 21);
+        for (int i = 0; i < 8; i++) {
+            x.take(i, 0);
+        }
+        Check.due("the target spreads", x.translate(0, 1, 5), 8);
+        for (int i = 0; i < 4; i++) {
+            x.review(i, 1 + i);
+            x.deliver(i);
+        }
+        x.withdraw(7);
+        int[] want = {8, 3, 6, 2, 0, 0, 9, 12, x.person(0, 6) + 24, 0, 0, 1, 7, 8, 0};
+        for (int what = 0; what < want.length; what++) {
+            Check.due("of eight: count(" + what + ")", x.count(what), want[what]);
+        }
+        Check.due("translating", x.person(0, 2), 3);
+        Check.due("words translated", x.person(0, 4), 12);
+        Check.due("paid to the translator", x.person(0, 6), 4 + 10 + 3 * (2 + 1));
+        Check.due("alike in hand then", x.entry(0, 4), 3);
+    }
+
+    private static void promise33CountLeavesOutWhatIsUndone() {
+        MatchBureau x = withPersons();
+        Check.entryWith(x, "a", 9);
+        Check.fileWith(x, "b");
+        x.keep();
+        Check.fileWith(x, "a.a");
+        x.take(1, 0);
+        x.review(1, 1);
+        x.deliver(1);
+        x.restore();
+        int[] delivered = {1, 1, 3, 1, 0, 0, 1, 0, 0, 1, 1, 0, 0, 0, 0};
+        for (int what = 0; what < delivered.length; what++) {
+            Check.due("a delivery undone: count(" + what + ")", x.count(what), delivered[what]);
+        }
+        for (int what = 2; what <= 7; what++) {
+            Check.due("a delivery undone: person(0, " + what + ")", x.person(0, what), what == 7 ? -5 : 0);
+            Check.due("a delivery undone: person(1, " + what + ")", x.person(1, what), what == 7 ? -5 : 0);
+        }
+        Check.fileWith(x, "a.a");
+        x.take(1, 0);
+        x.review(1, 1);
+        x.restore();
+        Check.due("a review undone: words", x.allWords(1) + x.allWords(0) + x.count(6), 1);
+        Check.due("a review undone: alike", x.entry(0, 4), 0);
+        Check.due("a review undone: files", x.person(0, 2) + x.person(1, 3), 0);
     }
 
     private static void tellingChangesNothing() {
