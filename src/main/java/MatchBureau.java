@@ -1175,7 +1175,8 @@ public final class MatchBureau {
             }
             for (int place = placeOf(file) - 1; place >= 0; place--) {
                 int other = order[place];
-                found = files[other].isInHand() ? files[other].lastAlike(sought, MAX_SEGMENTS) : NONE;
+                boolean counts = hasFile(other) && files[other].isInHand();
+                found = counts ? files[other].lastAlike(sought, MAX_SEGMENTS) : NONE;
                 if (found != NONE) {
                     return 100 * other + found;
                 }
@@ -1232,6 +1233,9 @@ public final class MatchBureau {
 
         int decide(int dispute, int which) {
             Dispute decided = memory.disputes[dispute];
+            if (!memory.hasEntry(decided.entry)) {
+                return 0;
+            }
             decided.chosen = which == 0 ? decided.first : decided.second;
             Entry entry = memory.entries[decided.entry];
             entry.target = decided.chosen;
